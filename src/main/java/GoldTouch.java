@@ -33,7 +33,7 @@ public final class GoldTouch {
     private final int[] row = new int[MOST_IN_ROW];
     private int rowCount;
     private int taskBits;
-    private final Planner planner = new Planner(court);
+    private final Planner planner = new Planner();
 
     private final int[] seenThing = new int[MOST_SEEN];
     private final int[] seenMinute = new int[MOST_SEEN];
@@ -314,7 +314,7 @@ public final class GoldTouch {
         if (taskBits == 0) {
             return what == 0 ? 0 : NONE;
         }
-        if (!planner.findWay(day, taskBits)) {
+        if (!planner.findWay(court, day, taskBits)) {
             return NONE;
         }
         switch (what) {
@@ -839,7 +839,7 @@ public final class GoldTouch {
 
     /** THE TEXT, and the reading of it up to its first fault. */
     private static final class Reader {
-        static final int WORDS = 11, BEARS = 5, WASH = 6, CHILL = 7, NOON = 8, COURT = 9, BARE = 10;
+        private static final int WORDS = 11, BEARS = 5, WASH = 6, CHILL = 7, NOON = 8, COURT = 9, BARE = 10;
 
         /** How many numbers each word has; the first five words are the kinds, in their order. */
         private static final int[] NUMBERS = {3, 3, 3, 3, 3, 2, 1, 1, 1, 0, 0};
@@ -1019,19 +1019,11 @@ public final class GoldTouch {
         int cost;
         int end;
         int first;
-        private final Court court;
         private int best;
         private final int[] tools = new int[FLOORS];
 
-        Planner(Court court) {
-            this.court = court;
-        }
-
-        boolean findWay(Day day, int tasks) {
+        boolean findWay(Court court, Day day, int tasks) {
             best = NO_WAY;
-            cost = NONE;
-            end = NONE;
-            first = NONE;
             for (int t = 0; t < court.things; t++) {
                 if (hasBit(tasks, t) && day.isLost(court, t)) {
                     return false;
@@ -1040,12 +1032,12 @@ public final class GoldTouch {
             for (int f = 0; f < FLOORS; f++) {
                 tools[f] = day.toolOf(court, f, tasks);
             }
-            search(day.minute, day.baths, tasks, day.forEver, 0, NONE);
+            search(court, day.minute, day.baths, tasks, day.forEver, 0, NONE);
             return best != NO_WAY;
         }
 
         /** Deeds are tried from the least on, and only a better way is taken. */
-        private void search(int minute, int baths, int left, int gold, int spent, int deed) {
+        private void search(Court court, int minute, int baths, int left, int gold, int spent, int deed) {
             // The soonest end is if a task is handled in each minute from here on.
             if (rankOf(spent, minute + Integer.bitCount(left) - 1) >= best) {
                 return;
@@ -1057,8 +1049,9 @@ public final class GoldTouch {
             if (minute >= LAST_MINUTE) {
                 return;
             }
+            int next = minute + 1;
             if (minute == 0 || !hasBit(baths, minute - 1)) {
-                search(minute + 1, baths | 1 << minute, left, gold, spent, firstOf(deed, BATHES));
+                search(court, next, baths | 1 << minute, left, gold, spent, firstOf(deed, BATHES));
             }
             int hand = handIn(court, baths, minute);
             for (int t = 0; t < court.things; t++) {
@@ -1068,11 +1061,11 @@ public final class GoldTouch {
                 int later = left & ~(1 << t);
                 int tool = tools[court.place[t]];
                 if (hand == CLEAN) {
-                    search(minute + 1, baths, later, gold, spent, firstOf(deed, BY_HAND + t));
+                    search(court, next, baths, later, gold, spent, firstOf(deed, BY_HAND + t));
                 } else if (tool != NONE && (hasBit(gold, tool) || hand == COLD && minute < court.noon)) {
-                    search(minute + 1, baths, later, gold, spent, firstOf(deed, BY_TOOL + t));
+                    search(court, next, baths, later, gold, spent, firstOf(deed, BY_TOOL + t));
                 } else if (tool != NONE) {
-                    search(minute + 1, baths, later, gold | 1 << tool, spent + court.weight[tool],
+                    search(court, next, baths, later, gold | 1 << tool, spent + court.weight[tool],
                         firstOf(deed, BY_TOOL + t));
                 }
             }

@@ -6,7 +6,7 @@ public final class OracleTest {
     private static final String[] KINDS = {"dead", "tool", "gate", "being", "food"};
 
     private final Check check = new Check("OracleTest");
-    private final Random chance = new Random(20261118L);
+    private final Random chance = new Random(Long.getLong("seed", 20261118L));
     private GoldTouch x;
     private Oracle o;
     private int run;
@@ -122,11 +122,18 @@ public final class OracleTest {
         return text.toString();
     }
 
+    private int wild() {
+        int[] all = {Integer.MIN_VALUE, Integer.MAX_VALUE, -6, 31, 32, 33, 64, 255, 256, 1 << 30};
+        return all[chance.nextInt(all.length)];
+    }
+
     private int aThing() {
+        if (chance.nextInt(60) == 0) return wild();
         return chance.nextInt(12) == 0 ? chance.nextInt(12) - 2 : chance.nextInt(8);
     }
 
     private int aWhat(int most) {
+        if (chance.nextInt(60) == 0) return wild();
         return chance.nextInt(10) == 0 ? chance.nextInt(most + 4) - 2 : chance.nextInt(most + 1);
     }
 
@@ -208,7 +215,7 @@ public final class OracleTest {
                 break;
             }
             case 6: {
-                int minute = chance.nextInt(28) - 1;
+                int minute = chance.nextInt(40) == 0 ? wild() : chance.nextInt(28) - 1;
                 same("price", x.price(minute), o.price(minute), minute);
                 break;
             }
@@ -222,6 +229,7 @@ public final class OracleTest {
             default: {
                 int set = chance.nextInt(4096) & chance.nextInt(4096) & chance.nextInt(4096);
                 if (chance.nextInt(10) == 0) set = chance.nextInt(4200) - 50;
+                if (chance.nextInt(40) == 0) set = wild();
                 same("baths", x.baths(set, w), o.baths(set, w), set, w);
             }
         }

@@ -104,6 +104,9 @@ public final class PromisesTest {
         faultDue("courts", 0);
         faultDue("cour", 0);
         faultDue("Court", 0);
+        faultDue("mourt", 0);
+        faultDue("courtz", 0);
+        faultDue("acourt", 0);
         faultDue("cou rt", 0);
         faultDue(" ;court", 1);
         faultDue("court;", 6);
@@ -126,6 +129,7 @@ public final class PromisesTest {
         faultDue("food 01 00 02", NONE);
         faultDue("food 001 0 0", 5);
         faultDue("food -1 0 0", 5);
+        faultDue("food 0 0 0", 5);
         faultDue("bears 2 99", NONE);
         faultDue("bears 3 0", 6);
         faultDue("bears 0 100", 8);
@@ -151,6 +155,7 @@ public final class PromisesTest {
         faultDue(eight, NONE);
         faultDue(eight + "; tool 1 0 0", eight.length() + 2);
         faultDue(eight + ";tool", eight.length() + 1);
+        faultDue(eight + ";food 1 0 0", eight.length() + 1);
         faultDue(eight + ";wash 1", NONE);
         faultDue(eight + ";bare;tool 1 0 0", NONE);
         faultDue(eight + ";court;tool 1 0 0", NONE);
@@ -160,6 +165,14 @@ public final class PromisesTest {
         x.erase();
         type(x, "bare;gate 1 0 0");
         due("4: bare first", x.fault(), NONE);
+        due("4: again", x.fault(), NONE);
+        due("5: what fault() read is not done", x.count(0), 8);
+        due("5: two", x.court(), 2);
+        due("5: one thing", x.count(0), 1);
+        type(x, "gate 1 0 0");
+        due("4: one more", x.fault(), NONE);
+        due("5: one clause", x.court(), 1);
+        due("5: two things", x.count(0), 2);
     }
 
     private static void manyClauses() {
@@ -203,10 +216,30 @@ public final class PromisesTest {
         due("5: a fault", x.court(), NOT);
         due("5: nothing was done", x.count(0), 0);
         due("5: the text stays", x.count(12), 17);
+        type(x, " ;wash 0");
+        x.erase();
+        type(x, "court");
+        due("5: court alone", x.court(), 1);
+        due("5: wash as at first", x.count(1), 3);
+        dayAnew();
         x = told("dead 9 1 0;bears 0 5");
         due("5: nothing is broken", x.count(7), 0);
         x.idle();
         due("5: till a deed was done", x.count(7), 1);
+    }
+
+    private static void dayAnew() {
+        GoldTouch x = told("food 1 0 0;dead 9 0 1;dead 1 0 2;bears 1 20;wash 1;chill 2");
+        x.bathe();
+        x.eat(0, NONE);
+        x.touch(1);
+        x.touch(2);
+        due("5: till noon", x.thing(2, 4), 1);
+        due("5: eaten, broken, gold", x.count(6) + 10 * x.count(7) + 100 * x.count(5), 621);
+        type(x, "noon 12");
+        x.court();
+        due("5: nothing is eaten, broken, gold", x.count(6) + 10 * x.count(7) + 100 * x.count(5), 0);
+        due("5: the things stay", x.count(0), 3);
     }
 
     private static void things() {
@@ -248,6 +281,8 @@ public final class PromisesTest {
         due("7: gold", x.as(3, 4), 12);
         x.eat(4, 1);
         due("7: eaten", x.as(4, 5), 0);
+        due("6: eaten", x.thing(4, 5), 1);
+        due("6: not eaten", x.thing(3, 5), 0);
         due("7: eaten, none such", x.as(4, 2), NOT);
     }
 
@@ -274,6 +309,9 @@ public final class PromisesTest {
         due("8: broken now", x.floor(2, 2), 1);
         due("8: load of a broken floor", x.floor(2, 1), 18);
         due("8: no tool on a broken floor", x.floor(2, 3), NONE);
+        x = told("tool 1 0 0;tool 9 0 0;wash 0;chill 0");
+        x.touch(1);
+        due("8: gold is ahead of the lightest", x.floor(0, 3), 1);
         x = told("tool 3 0 0;bears 0 9;wash 0;chill 0");
         x.touch(0);
         due("8: just what it bears", x.floor(0, 2), 0);
@@ -435,6 +473,7 @@ public final class PromisesTest {
         due("15: eight at most", x.count(11), 8);
         for (int left = 7; left >= 0; left--) {
             due("15: back", x.undo(), left);
+            due("15: minute", x.count(4), left + 2);
         }
         due("15: no more", x.undo(), NOT);
         due("15: minute", x.count(4), 2);
@@ -495,6 +534,7 @@ public final class PromisesTest {
         due("18: what is gold counts", x.town(1, 0), 1 + 12 + 1 + 20 + 1);
         due("18: of several the least", told("dead 2 6 0;dead 3 9 0").town(0, 1), 0);
         due("18: nothing gained, nothing in the set", told("dead 2 7 0;dead 3 8 0").town(0, 1), 2);
+        due("18: no being, though it would pay", told("being 9 1 0;dead 2 1 0").town(0, 1), 2);
         due("18: too much already", told("dead 2 7 0;bears 0 1").town(0, 0), NONE);
         x = told("dead 2 1 0;dead 3 1 0;bears 0 4;wash 0;chill 0");
         x.idle();
@@ -621,6 +661,13 @@ public final class PromisesTest {
         planDue(x, 7, 22, 20);
         x.idle();
         planDue(x, 7, 23, 20);
+        x = told("tool 2 0 0;dead 1 0 0;tool 1 0 1;dead 1 0 1;dead 1 0 1;wash 0;chill 1;noon 2");
+        x.task(1);
+        x.task(3);
+        // The cold minute 1 is the only free one: for the dearer tool, though it ends later.
+        planDue(x, 1, 2, 2);
+        x.task(4);
+        planDue(x, 1, 3, 2);
         x = told("tool 7 0 0;tool 6 0 0;dead 1 0 0;wash 0;chill 1;noon 24");
         x.bathe();
         x.touch(0);
@@ -657,6 +704,11 @@ public final class PromisesTest {
         x.task(1);
         planDue(x, NONE, NONE, NONE);
         due("24: outside all the same", x.plan(3), OUTSIDE);
+        x = told("food 1 0 0;dead 1 0 1;wash 1");
+        x.bathe();
+        x.eat(0, NONE);
+        x.task(0);
+        planDue(x, NONE, NONE, NONE);
     }
 
     private static void prices() {
@@ -704,6 +756,13 @@ public final class PromisesTest {
         due("27: how many", x.thief(0), 2);
         due("27: thing", x.thief(1), 0);
         due("27: floor", x.thief(2), 1);
+        x = told("dead 2 0 0;dead 1 0 1;dead 2 5 2");
+        // 6, 3 and 1: the guard on floor 0 leaves him 3, but is then to be on floor 1.
+        due("27: none", x.thief(0), 0);
+        x = told("dead 3 7 0;dead 2 4 1;food 4 12 2");
+        due("27: none, nor here", x.thief(0), 0);
+        x = told("dead 4 11 0;dead 4 12 1;dead 4 13 2");
+        due("27: three times the weight", x.thief(0), 3);
         x = told("dead 4 2 0;dead 4 2 1");
         due("27: he runs, and runs", x.thief(0), 0);
         x = told("dead 1 40 0;dead 1 40 2");
