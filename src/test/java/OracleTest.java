@@ -26,9 +26,9 @@ public final class OracleTest {
     }
 
     private void slipsAll() {
-        x = new GoldTouch();
-        o = new Oracle();
         for (int q = -1; q <= 11; q++) {
+            x = new GoldTouch();
+            o = new Oracle();
             for (int n = -1; n <= 5; n++) {
                 for (int k = -1; k <= 7; k++) {
                     for (int part = -1; part <= 2; part++) {
