@@ -37,6 +37,7 @@ public final class DayEdgesTest {
         cleanTouch();
         hotTouch();
         coldTouch();
+        othersStay();
         deedByTool();
         deedOfEating();
         eatenCannot();
@@ -197,6 +198,25 @@ public final class DayEdgesTest {
         due("again", x.touch(0), 1);
         x.idle();
         due("noon", x.thing(0, 4), 0);
+    }
+
+    private static void othersStay() {
+        sentence("A THING that is TOUCHED .. (each other one stays as it is)");
+        String text = Runs.times("dead 1 5 0", 8, ";") + ";wash 0;chill 4;noon 7";
+        for (int cold = 0; cold < 8; cold++) {
+            for (int hot = 0; hot < 8; hot++) {
+                GoldTouch x = Runs.told(text);
+                x.bathe();
+                x.touch(cold);
+                Runs.idle(x, 3);
+                x.touch(hot);
+                due("till noon " + cold + ", then for ever " + hot, x.count(5), 1 << cold | 1 << hot);
+                due("the first", x.thing(cold, 4), cold == hot ? 2 : 1);
+                due("the second", x.thing(hot, 4), 2);
+                x.idle();
+                due("noon", x.count(5), 1 << hot);
+            }
+        }
     }
 
     private static void deedByTool() {
@@ -473,6 +493,14 @@ public final class DayEdgesTest {
         due("most", x.hand(99), 2);
         x.undo();
         due("undone", x.hand(24), 2);
+        sentence("hand: HAND in a MINUTE (.. 99 ..): no bath comes round again 32 or 64 MINUTES behind it");
+        for (int bath = 0; bath < 24; bath++) {
+            x = Runs.idle(Runs.told("wash 4;chill 4"), bath);
+            x.bathe();
+            for (int m = bath + 9; m <= 99; m++) {
+                due("bathed in " + bath + ", hand " + m, x.hand(m), 2);
+            }
+        }
         sentence("hand: OUTSIDE");
         outside("hand", 0, 99, GoldTouch::hand);
     }
